@@ -931,7 +931,10 @@ public final class SeeSawHearts {
                 return false;
             }
             advance();
-            return tellPerson(beam, beam.join(kind));
+            int p = beam.join(kind);
+            return tellPart("glad", MOST_FEELING, beam.glads, p)
+                    && tellPart("sorry", MOST_FEELING, beam.sorrows, p)
+                    && tellPart("on", ENDS - 1, beam.places, p);
         }
 
         private boolean tellNews(Beam beam) {
@@ -953,12 +956,7 @@ public final class SeeSawHearts {
             return true;
         }
 
-        private boolean tellPerson(Beam beam, int p) {
-            return tellPart("glad", MOST_FEELING, beam.glads, p)
-                    && tellPart("sorry", MOST_FEELING, beam.sorrows, p)
-                    && tellPart("on", ENDS - 1, beam.places, p);
-        }
-
+        /** A part of an ITEM that may be left out. */
         private boolean tellPart(String name, int most, int[] row, int p) {
             if (!isWord(name)) {
                 return true;

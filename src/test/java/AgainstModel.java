@@ -14,6 +14,8 @@ public final class AgainstModel {
         "on", "bag", "news", ";", " ", "0", "1", "7", "20", "21", "99", "100", "mann", "!", "hat"};
 
     private static long seed;
+    // In every other run feelings are small and minutes few, so that it comes level often and widows are not eased.
+    private static boolean isCalm;
 
     /** A number from 0 to n - 1, the same ones on each run of the test. */
     private static int dice(int n) {
@@ -45,6 +47,9 @@ public final class AgainstModel {
     /** Small ones more often, as they come level sooner. */
     private static int feeling() {
         int r = dice(4);
+        if (isCalm) {
+            return within(0, r == 0 ? 20 : 6);
+        }
         return r == 0 ? within(0, 99) : r == 1 ? within(0, 3) : within(0, 20);
     }
 
@@ -188,8 +193,14 @@ public final class AgainstModel {
         if (call.equals("set")) {
             a[2] = a[1] == 3 ? within(-1, 1) : feeling();
         }
-        if (call.equals("wipe") && dice(3) > 0) {
+        boolean isSpared = call.equals("wipe") || isCalm && (call.equals("minutes") || call.equals("hang"));
+        if (isSpared && dice(3) > 0) {
             return true;
+        }
+        if (call.equals("read") && dice(3) > 0) {
+            int[] laid = {a[0], new int[] {8, 16, 64}[dice(3)], dice(9)};
+            return alike(run, x, m, "sheet", laid, 0) && alike(run, x, m, "book", a, 0)
+                && alike(run, x, m, call, a, 0);
         }
         if (call.equals("feed") && dice(2) == 0) {
             return alike(run, x, m, "feed", new int[] {dice(Integer.MAX_VALUE) - (1 << 30), within(1, 4)}, 0);
@@ -220,6 +231,7 @@ public final class AgainstModel {
 
     private static void run(int run) {
         seed = run;
+        isCalm = run % 2 == 0;
         SeeSawHearts x = new SeeSawHearts();
         Model m = new Model();
         int until = calls + CALLS - 40;

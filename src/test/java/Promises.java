@@ -334,7 +334,7 @@ public final class Promises {
         due("child", x.of(1, 1), 3);
         due("child", x.of(1, 2), 6);
         due("off", x.of(2, 1), 9);
-        due("half the difference", x.minutes(1), 10000 + 5 - 2);
+        due("no more than half the difference", x.minutes(1), 10000 + 5 - 2);
         due("child", x.of(1, 1), 4);
         due("child", x.of(1, 2), 5);
         due("no more", x.minutes(100), 10000 + 1 - 2);
@@ -346,6 +346,22 @@ public final class Promises {
         }
         due("minute", x.now(0), 105);
         mixesByKind();
+        lastMinute();
+    }
+
+    /** More calls than an object is promised for: MINUTE comes to its end no sooner. */
+    private static void lastMinute() {
+        SeeSawHearts x = new SeeSawHearts();
+        for (int k = 0; k < 999; k++) {
+            x.minutes(100);
+        }
+        x.minutes(98);
+        due("two too many", x.minutes(3), STATE);
+        due("n before state", x.minutes(101), BEYOND);
+        due("minute", x.now(0), 99998);
+        due("the last", x.minutes(1), 15000);
+        due("above 99999", x.minutes(1), STATE);
+        due("minute", x.now(0), 99999);
     }
 
     private static void mixesByKind() {
@@ -663,6 +679,11 @@ public final class Promises {
         add(x, MAN, 0, 1, 1);
         due("tilt", x.now(2), 10001);
         due("one rather than two", x.fewest(0), 1);
+        x.set(1, 1, 1);
+        x.set(2, 1, 4);
+        due("of two alike the least", x.fewest(0), 1);
+        x.set(1, 1, 2);
+        x.set(2, 1, 3);
         x.set(4, 1, 2);
         due("of two the least", x.fewest(0), 4);
         SeeSawHearts y = new SeeSawHearts();
@@ -773,6 +794,11 @@ public final class Promises {
         parkDue("man man", -5);
         parkDue("mann", -1);
         parkDue("ma", -1);
+        parkDue("pan", -1);
+        parkDue("map", -1);
+        parkDue("manz", -1);
+        parkDue("zman", -1);
+        parkDue("man z", -5);
         parkDue("manglad 3", -1);
         parkDue("Man", -1);
         parkDue("man\t", -4);
