@@ -231,6 +231,12 @@ public final class EdgesOfBeam extends Edges {
         SeeSawHearts widow = hanging(WIDOW, 5, 5);
         due("a widow comes to minute 39", widow.minutes(39), 9998);
         due("a widow comes to minute 40", widow.minutes(1), 10000);
+        SeeSawHearts eight = eightAt(0, CHILD, 9, 0);
+        eight.set(0, 3, 1);
+        due("eight on the beam", eight.minutes(1), 10000 + 8 * 6);
+        for (int p = 0; p < 8; p++) {
+            due("person " + p + " is mixed", eight.of(p, 2), 3);
+        }
         beyond("n", Edges::busy, SeeSawHearts::minutes, 0, 101, -1, LOW, HIGH);
         beyond("n", Edges::empty, SeeSawHearts::minutes, 0, 101, -1, LOW, HIGH);
         lastMinute();

@@ -226,6 +226,9 @@ public final class EdgesOfBest extends Edges {
             x -> x.delay(2, 1, 60), 0);
         told("another mixes all the while, whenever one sits",
             () -> people(row(MAN, 20, 0, 0), row(MAYOR, 0, 0, 1), row(MAYOR, 0, 20, OFF)), x -> x.delay(2, 1, 5), 0);
+        // Its HEART goes 20, 18, .. 6; that of one that sat down 2 MINUTES ago is -6.
+        told("another has mixed by then",
+            () -> people(row(MAN, 20, 0, 0), row(MAYOR, 0, 0, 1), row(MAN, 0, 10, OFF)), x -> x.delay(2, 1, 7), 5);
         told("it does not hang meanwhile", () -> people(row(MAN, 10, 0, 0), row(MAYOR, 0, 20, OFF)),
             x -> x.delay(1, 1, 7), 7);
         refused("it never hangs", () -> people(row(MAN, 10, 0, 0), row(MAYOR, 0, 20, OFF)), x -> x.delay(1, 0, 7), NONE);
@@ -325,6 +328,10 @@ public final class EdgesOfBest extends Edges {
         told("it mixes from now on", () -> waiting(20), x -> x.helps(2, 0, 0), 0);
         told("it mixes from now on", () -> waiting(20), x -> x.helps(2, 0, 1), 1);
         told("it is mixed", () -> waiting(20), x -> x.helps(2, 0, 10), 0);
+        told("another mixes, without as with", () -> people(row(MAN, 20, 0, 0), row(MAYOR, 0, 0, 1), row(MAYOR, 0, 30, OFF)),
+            x -> x.helps(2, 0, 9), 0);
+        told("another has not mixed yet", () -> people(row(MAN, 20, 0, 0), row(MAYOR, 0, 0, 1), row(MAYOR, 0, 30, OFF)),
+            x -> x.helps(2, 0, 0), 1);
         told("a widow in 39", () -> people(row(MAYOR, 20, 0, 0), row(MAYOR, 0, 0, 1), row(WIDOW, 0, 5, OFF)),
             x -> x.helps(2, 0, 39), 1);
         told("a widow in 40", () -> people(row(MAYOR, 20, 0, 0), row(MAYOR, 0, 0, 1), row(WIDOW, 0, 5, OFF)),

@@ -25,7 +25,7 @@ public final class EdgesOfImages extends Edges {
             x.set(p, 2, 97 - x.of(p, 2) / 2);
             x.set(p, 3, x.of(p, 3) == 1 ? OFF : x.of(p, 3) + 1);
         }
-        x.person(ORPHAN);
+        one(x, ORPHAN, 96, 95, 1);
         x.take(0);
         x.bag(17);
         x.hang(1);
@@ -164,6 +164,13 @@ public final class EdgesOfImages extends Edges {
         }
         told("those that sit, not those that are off", Edges::busy, x -> x.count(2), 4);
         told("of both ends", Edges::busy, x -> x.count(3), 3);
+        SeeSawHearts few = empty();
+        one(few, MAN, 0, 0, 0);
+        due("one sits at end 0", few.count(2), 1);
+        few.set(0, 3, 1);
+        due("one sits at end 1", few.count(2), 1);
+        few.set(0, 3, OFF);
+        due("nobody sits", few.count(2), 0);
         SeeSawHearts x = empty();
         for (int k = 0; k < 41; k++) {
             x.bag(20);

@@ -432,6 +432,33 @@ public final class EdgesOfSheets extends Edges {
         due("but for the first", x.read(0, 0), 0);
         due("sorry stays", x.of(0, 2), 1);
         due("kind stays", x.of(0, 0), CHILD);
+        x.set(0, 3, OFF);
+        x.book(0);
+        due("all of 40, not hanging", x.read(0, 1), 600);
+        due("all of 40, of one that is off", x.read(0, 0), 600);
+        x.write(0, 39, 4999);
+        due("but for the last, of one that is off", x.read(0, 0), 0);
+        readOthers();
+    }
+
+    /** Another one mixes, whatever the pair is, and a widow is eased while the numbers go on. */
+    private static void readOthers() {
+        SeeSawHearts x = laid(16, 3);
+        one(x, MAN, 9, 0, 0);
+        one(x, CHILD, 30, 0, 1);
+        int[] tilts = {9 + 60, 7 + 48, 5 + 36};
+        for (int i = 0; i < 3; i++) {
+            x.write(0, i, tilts[i]);
+        }
+        due("a man beside a child that mixes", x.read(0, 0), 1);
+        x.write(0, 2, 5 + 60);
+        due("none beside one that does not", x.read(0, 0), 0);
+        for (int minute = 38; minute <= 40; minute++) {
+            SeeSawHearts late = readable(9, minute, 8, 0);
+            late.sheet(0, 8, 2);
+            late.write(0, 0, 9);
+            due("a widow is eased from minute 40 on, in " + minute, late.read(0, 0), minute == 39 ? 1 : 0);
+        }
     }
 
     public static void main(String[] args) {

@@ -200,6 +200,36 @@ public final class EdgesOfText extends Edges {
         due("zeros alone", good("bag 000000000000", 1).now(1), 0);
     }
 
+    /** Each WORD that the text has, with each of its letters another. */
+    private static void words() {
+        promise(30);
+        for (String kind : KINDS) {
+            for (int i = 0; i < kind.length(); i++) {
+                fault(spelt(kind, i), 0);
+            }
+        }
+        String[] others = {"bag", "news", "glad", "sorry", "on"};
+        String[] behind = {"1", "0 1 2", "1", "1", "1"};
+        for (int k = 0; k < others.length; k++) {
+            String before = k < 2 ? "" : "man ";
+            good(before + others[k] + " " + behind[k], 1);
+            for (int i = 0; i < others[k].length(); i++) {
+                fault(before + spelt(others[k], i) + " " + behind[k], before.length());
+            }
+            fault(before + others[k] + others[k] + behind[k], before.length());
+        }
+        SeeSawHearts x = empty();
+        due("the first of all", parked(x, "widow glad 7 sorry 8 on 1"), 1);
+        int[] want = {WIDOW, 7, 8, 1};
+        for (int what = 0; what <= 3; what++) {
+            due("what " + what + " of the first", x.of(0, what), want[what]);
+        }
+    }
+
+    private static String spelt(String word, int i) {
+        return word.substring(0, i) + "z" + word.substring(i + 1);
+    }
+
     private static void news() {
         promise(30);
         SeeSawHearts x = good("news 0 0 0", 1);
@@ -290,6 +320,7 @@ public final class EdgesOfText extends Edges {
         tooEarly();
         allBytes();
         numbers();
+        words();
         news();
         ninth();
         order();
